@@ -874,9 +874,9 @@ public final class TraitHouse {
         private final int needs;
         private final long[] keptValues = new long[PEOPLE];
         private final int[] keptMoments = new int[PEOPLE];
-        // The widest law holds nothing: it stands for none.
-        private long lawFrom = Long.MIN_VALUE;
-        private long lawTo = Long.MAX_VALUE;
+        // Nothing that can be made lies outside of this: so it stands for no law.
+        private long lawFrom = -WIDEST_RESULT;
+        private long lawTo = WIDEST_RESULT;
         private int staleAbove = LAST_MOMENT;
         private int heldInAll;
 
@@ -965,12 +965,12 @@ public final class TraitHouse {
         private long workOut(Step[] steps) {
             top = 0;
             for (int i = 0; i < steps.length; i++) {
-                take(steps[i]);
+                perform(steps[i]);
             }
             return pop();
         }
 
-        private void take(Step step) {
+        private void perform(Step step) {
             switch (step.kind) {
                 case NUMBER:
                     push(step.number);

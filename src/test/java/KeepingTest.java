@@ -215,6 +215,15 @@ public final class KeepingTest {
     private static void wrongInputs() {
         TraitHouse x = Check.house("1");
         x.freshen(0);
+        TraitHouse y = Check.house("1", "2", "3");
+        y.freshen(0);
+        y.freshen(1);
+        y.freshen(2);
+        due("person 20 is no one of the next trait", y.history(1, 20, 0), LACK);
+        due("person -1 is no one of the trait ahead", y.history(1, -1, 0), LACK);
+        due("told of person 20", y.told(1, 20, 0, 0), NONE);
+        due("trait 3 of person -1", y.told(3, -1, 0, 0), NONE);
+        due("trait -1 of person 20", y.told(-1, 20, 0, 0), NONE);
         int[][] wrong = {{1, 0, 0}, {-1, 0, 0}, {0, 20, 0}, {0, -1, 0}, {0, 0, -1}, {0, 0, 100001}};
         for (int[] each : wrong) {
             String call = each[0] + ", " + each[1] + ", " + each[2];

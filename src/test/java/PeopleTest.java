@@ -11,6 +11,7 @@ public final class PeopleTest {
         ringsInWhateverOrder();
         longestChain();
         erasing();
+        whatStaysOfOthers();
         CHECK.finish();
     }
 
@@ -169,5 +170,27 @@ public final class PeopleTest {
         due("places of nineteen", x.count(6), 79);
         due("fill for nineteen", x.fill(0, 0, 0, 1), 19);
         due("no history comes back", x.history(0, 0, 5), TraitHouse.LACK);
+    }
+
+    private static void whatStaysOfOthers() {
+        TraitHouse x = Check.house("last 1", "age 1", "last 4");
+        x.row(3, 0, 1, 1, 10);
+        x.row(17, 1, 2, 5, 20);
+        x.row(3, 2, 3, 3, 30);
+        x.row(17, 4, 4, 4, 40);
+        x.now(6);
+        x.freshen(0);
+        x.freshen(1);
+        due("erase(3)", x.erase(3), 2);
+        due("value", x.value(0, 17, 6, 6), 20);
+        due("moment", x.value(1, 17, 6, 6), 4);
+        due("stream", x.value(2, 17, 6, 6), 40);
+        due("known", x.value(0, 17, 6, 4), TraitHouse.LACK);
+        for (int person = 0; person < 20; person++) {
+            int made = person == 3 ? TraitHouse.NONE : 6;
+            due("kept of " + person, x.age(1, person, 0), made);
+            due("history of " + person, x.told(1, person, 6, 0), made);
+            due("history of the first trait of " + person, x.told(0, person, 6, 0), made);
+        }
     }
 }

@@ -48,6 +48,15 @@ public final class ShiftTest {
             x.row(person, 0, 2, 2, 15);
         }
         both(x, "two in each heap", 1, 2, 3, 4);
+        TraitHouse y = Check.house("last 0");
+        int[] edges = {10, 20, 30, 9, 19, 29};
+        for (int moment = 0; moment < edges.length; moment++) {
+            y.row(0, 0, moment, moment, edges[moment]);
+        }
+        both(y, "the first bound lies in the second heap", 0, 4, 0, 1);
+        both(y, "the second bound lies in the third heap", 1, 5, 0, 1);
+        both(y, "the third bound lies in the fourth heap", 2, 5, 1, 1);
+        both(y, "below the first", 3, 0, 1, 1);
         due("one bound thrice", x.shift(0, 1, 2, 20, 20, 20, 0), 1);
         due("of two", x.shift(0, 1, 2, 20, 20, 20, 1), 2);
         due("all in one heap", x.shift(0, 1, 2, Long.MAX_VALUE, Long.MAX_VALUE, Long.MAX_VALUE, 0), 0);

@@ -115,7 +115,19 @@ public final class TextTest {
         faulty("99999999999999999999999999", 0);
         faulty("4294967296", 0);
         faulty("Last 0", 0);
-        faulty("lastx 0", 0);
+        faulty("lastz 0", 0);
+        faulty("lasta 0", 0);
+        faulty("last + +", 5);
+        faulty("trait * *", 6);
+        faulty("1 else + +", 7);
+        faulty("sum + +", 4);
+        faulty("sum 0 + +", 6);
+        faulty("sum 0 from + +", 11);
+        faulty("sum 0 from 1 + +", 13);
+        faulty("sum 0 from 1 to + +", 16);
+        faulty("sum 0 from 1 to 2 + +", 16);
+        faulty("(1 + + 2", 5);
+        faulty("1 + 1000001 1", 4);
         faulty("las t 0", 0);
         faulty("last", 4);
         faulty("last 6", 5);
@@ -216,6 +228,10 @@ public final class TextTest {
         faulty("a".repeat(200), 0);
         faulty("1" + " ".repeat(198) + "1", 199);
         faulty(" ".repeat(200), 200);
+
+        TraitHouse y = Check.house(ones + "+", ones.toString(), ones.append(" ").toString(), "5");
+        due("no text leaves anything to the next one", y.value(1, 0, 0, 0), 100);
+        due("nor the longest", y.value(2, 0, 0, 0), 5);
 
         // Each reads the one ahead of it many times: it must not be made anew for each reading.
         TraitHouse x = Check.house("last 0");

@@ -138,6 +138,14 @@ public final class ValueTest {
         due("sum just within", x.value(13, 0, 0, 0), 1000000000000L);
         due("below by below", x.value(14, 0, 0, 0), TraitHouse.LACK);
         due("by 0", x.value(15, 0, 0, 0), 0);
+        TraitHouse y = Check.house("65536*65536", "trait 0*trait 0", "0*trait 0", "(0-trait 0)*trait 0",
+                "trait 0*232", "trait 0*233");
+        due("2 to the 32nd", y.value(0, 0, 0, 0), 4294967296L);
+        due("2 to the 64th", y.value(1, 0, 0, 0), TraitHouse.LACK);
+        due("0 times", y.value(2, 0, 0, 0), 0);
+        due("below", y.value(3, 0, 0, 0), TraitHouse.LACK);
+        due("within", y.value(4, 0, 0, 0), 996432412672L);
+        due("above", y.value(5, 0, 0, 0), TraitHouse.LACK);
     }
 
     private static void wrongInputs() {
