@@ -3,7 +3,8 @@ import java.util.Random;
 /** Long random runs of calls, always the same ones: TraitHouse must answer as the plain house does. */
 public final class RandomRunsTest {
     private static final int RUNS = 600;
-    private static final int CALLS = 512;
+    /** An object is used for 512 calls at most, and a step takes 15 of them at most. */
+    private static final int CALLS = 512 - 15;
     private static final Check CHECK = new Check();
 
     private final Random random;
