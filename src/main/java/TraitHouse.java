@@ -673,7 +673,9 @@ public final class TraitHouse {
 
         private Step[] stepsRead() {
             Step[] copy = new Step[size];
-            System.arraycopy(steps, 0, copy, 0, size);
+            for (int i = 0; i < size; i++) {
+                copy[i] = steps[i];
+            }
             return copy;
         }
 

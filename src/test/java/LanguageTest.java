@@ -11,7 +11,7 @@ public final class LanguageTest {
     private static final String[] OUTSIDE = {
         "\\b(throw|throws|try|catch|finally|synchronized|assert|native|volatile|transient|protected)\\b",
         "->", "::", "\\bimport (?!java\\.util\\.(Arrays|ArrayList|List|Iterator);)", "\\bpackage\\b",
-        "\\bSystem\\.(?!arraycopy\\b)", "\\b\\w+Exact\\b", "\\bstatic (?!final |boolean |int |long |void )",
+        "\\bSystem\\.", "\\b\\w+Exact\\b", "\\bstatic (?!final |boolean |int |long |void )",
         "\\bObject\\b", "\\bException\\b", "\\.(hashCode|toString|getClass)\\(", "@", "\\bstatic \\{",
     };
 
